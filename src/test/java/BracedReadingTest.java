@@ -107,7 +107,10 @@ public final class BracedReadingTest {
         page("{\\rtf1\\ansi\\foo-5 a\\bar1234567890123 b\\bb c\\colortbl d}", "0 0 (0 12 0|abcd)");
         page("{\\para b\\parx\\pa\\p\\q\\f\\c\\l\\x}", "0 0 (0 12 0|b)");
         page("{x\\colortbl1234567;a;}", "0 0 (0 12 0|x;a;)");
+        page("{\\z\\az7 b\\zbz}", "0 0 (0 12 0|b)");
         fault("{\\B}", BracedPages.WORD, 1);
+        fault("{\\`}", BracedPages.WORD, 1);
+        fault("{\\|}", BracedPages.WORD, 1);
         fault("{ab\\1}", BracedPages.WORD, 3);
         fault("{\\ a}", BracedPages.WORD, 1);
         fault("{\\\n}", BracedPages.WORD, 1);
@@ -177,6 +180,8 @@ public final class BracedReadingTest {
         page("{\\u32\\u255 ab}", "0 0 (0 12 0| ab)");
         page("{\\uc0\\u65 b}", "0 0 (0 12 0|Ab)");
         page("{\\uc2\\u65 bcd}", "0 0 (0 12 0|Ad)");
+        page("{\\uc3\\uc\\u65 bcd}", "0 0 (0 12 0|Acd)");
+        page("{\\uc9\\u65 123456789d}", "0 0 (0 12 0|Ad)");
         page("{\\uc2\\u65\n\nb\nc\nd}", "0 0 (0 12 0|Ad)");
         page("{\\uc5\\u65\\b \\'41\\*\\~\\{d}", "0 0 (0 12 0|Ad)");
         page("{\\u65\\par b}", "0 0 (0 12 0|Ab)");
@@ -290,5 +295,18 @@ public final class BracedReadingTest {
         pages.clear();
         Check.feedAll(pages, "{\\cf1 x}");
         CHECK.same("and a table of its own", pages.readBraced(), BracedPages.RANGE);
+        pages.clear();
+        Check.feedAll(pages, "{{\\colortbl;blue;re!");
+        CHECK.same("a fault amid a table", pages.readBraced(), BracedPages.TABLE);
+        pages.clear();
+        Check.feedAll(pages, "{a{\\colortbl;red;}\\cf1 b}");
+        CHECK.same("the next reading", pages.readBraced(), 1);
+        CHECK.same("is in no table", Check.told(pages), "0 0 (0 12 0|a) (0 12 1|b)");
+        pages.clear();
+        Check.feedAll(pages, "{{\\colortbl;x;}}");
+        pages.readBraced();
+        pages.clear();
+        Check.feedAll(pages, "{{\\colortbl;red;}\\cf1 b}");
+        CHECK.same("and amid no name", pages.readBraced(), 1);
     }
 }
