@@ -64,6 +64,13 @@ public final class BracedReadingTest {
         fault("{\\", BracedPages.WORD, 1);
         fault("{a\\'", BracedPages.WORD, 2);
         fault("{a\\'e", BracedPages.WORD, 2);
+        String[] full = {"\\", "\\'", "\\'e"};
+        for (String cut : full) {
+            fault("{" + Check.repeated("a", 399 - cut.length()) + cut, BracedPages.WORD, 400 - cut.length());
+        }
+        fault("{" + Check.repeated("a", 396) + "\\b-", BracedPages.OPEN, 400);
+        fault("{\\*" + Check.repeated("a", 396) + "\\", BracedPages.OPEN, 400);
+        fault("{\\" + Check.repeated("a", 398), BracedPages.OPEN, 400);
         page("{a}\n", "0 0 (0 12 0|a)");
         fault("{a}\n \n", BracedPages.BEHIND, 4);
         fault("{a}}", BracedPages.BEHIND, 3);
@@ -308,5 +315,11 @@ public final class BracedReadingTest {
         pages.clear();
         Check.feedAll(pages, "{{\\colortbl;red;}\\cf1 b}");
         CHECK.same("and amid no name", pages.readBraced(), 1);
+        pages.clear();
+        Check.feedAll(pages, "{{\\colortbl;re!");
+        pages.readBraced();
+        pages.clear();
+        Check.feedAll(pages, "{{\\colortbl}b}");
+        CHECK.same("nor in a table without entries", pages.readBraced(), 1);
     }
 }

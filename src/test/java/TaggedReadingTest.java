@@ -13,6 +13,7 @@ public final class TaggedReadingTest {
         tagFaults();
         tooLong();
         faultsChangeNothing();
+        nothingBehindTheEnd();
         CHECK.end();
     }
 
@@ -205,5 +206,28 @@ public final class TaggedReadingTest {
         Check.feedAll(pages, "<p>a</p>");
         CHECK.same("the next reading", pages.readTagged(), 1);
         CHECK.same("begins anew", Check.told(pages), "0 0 (0 12 0|a)");
+    }
+
+    /** What stood behind the end of IN in an earlier text, or would stand behind the 400th character, is not read. */
+    private static void nothingBehindTheEnd() {
+        String[] letters = {"&lt;", "&gt;", "&amp;", "&127;"};
+        for (String letter : letters) {
+            for (int length = 1; length < letter.length(); length++) {
+                String cut = letter.substring(0, length);
+                BracedPages pages = Check.fed("<p>" + letter + "</p>");
+                pages.readTagged();
+                pages.clear();
+                Check.feedAll(pages, "<p>" + cut);
+                CHECK.same(cut + " behind a longer text", pages.readTagged(), BracedPages.TAG);
+                CHECK.same(cut + " behind a longer text: at", pages.at(), 3);
+                fault("<p>" + Check.repeated("a", 397 - length) + cut, BracedPages.TAG, 400 - length);
+            }
+        }
+        String[] tags = {"<p>", "</p>", "<b>", "</b>", "<s 20>", "<c 3>"};
+        for (String tag : tags) {
+            for (int length = 1; length < tag.length(); length++) {
+                fault("<p>" + Check.repeated("a", 397 - length) + tag.substring(0, length), BracedPages.TAG, 400 - length);
+            }
+        }
     }
 }
