@@ -1,6 +1,7 @@
 /** Promises 5 and 7: the braced form as it is read, with its faults and where they are met. */
 public final class BracedReadingTest {
     private static final Check CHECK = new Check("BracedReadingTest");
+    private static final Form BRACED = new Form(CHECK, BracedPages::readBraced);
 
     public static void main(String[] arguments) {
         groups();
@@ -20,18 +21,11 @@ public final class BracedReadingTest {
     }
 
     private static void page(String text, String due) {
-        BracedPages pages = Check.fed(text);
-        int answer = pages.readBraced();
-        CHECK.same(text, Check.told(pages), due);
-        CHECK.same(text + " paragraphs", answer, pages.paragraphs());
-        CHECK.same(text + " at", pages.at(), BracedPages.NONE);
+        BRACED.page(text, due);
     }
 
     private static void fault(String text, int due, int at) {
-        BracedPages pages = Check.fed(text);
-        CHECK.same(text, pages.readBraced(), due);
-        CHECK.same(text + " at", pages.at(), at);
-        CHECK.same(text + " leaves no page", pages.paragraphs(), 0);
+        BRACED.fault(text, due, at);
     }
 
     private static void groups() {

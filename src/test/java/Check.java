@@ -1,6 +1,10 @@
+import java.util.function.Supplier;
+import java.util.function.ToIntFunction;
+
 /** What the tests share: comparing, feeding texts, and telling a page and OUT as a text. */
 final class Check {
     private final String name;
+    private String sentence = "";
     private int checks;
     private int wrong;
 
@@ -11,6 +15,11 @@ final class Check {
     /** A call that may throw. */
     interface Call {
         int call();
+    }
+
+    /** From here on all checks belong to these words of the document. */
+    void sentence(String words) {
+        sentence = words;
     }
 
     void same(String what, long got, long due) {
@@ -38,9 +47,19 @@ final class Check {
         }
     }
 
+    /** The call is refused, and the object is then as one of the same making that was not called. */
+    void isRefused(String what, Class<? extends RuntimeException> due, Supplier<BracedPages> making, ToIntFunction<BracedPages> call) {
+        BracedPages called = making.get();
+        BracedPages spared = making.get();
+        isThrown(what, due, () -> call.applyAsInt(called));
+        same(what + " leaves all but IN", seen(called), seen(spared));
+        same(what + " leaves IN", seenOfIn(called), seenOfIn(spared));
+    }
+
     private void report(String what, String got, String due) {
         wrong++;
-        System.out.println(name + ": " + what.replace("\n", "\\n") + " answered " + got + ", due is " + due);
+        String where = sentence.isEmpty() ? name : name + ", \"" + sentence + "\"";
+        System.out.println(where + ": " + what.replace("\n", "\\n") + " answered " + got + ", due is " + due);
     }
 
     void end() {
@@ -72,22 +91,38 @@ final class Check {
 
     static String out(BracedPages pages) {
         StringBuilder text = new StringBuilder();
-        for (int i = 0; pages.out(i) != BracedPages.NONE; i++) {
-            text.append((char) pages.out(i));
+        int character = pages.out(0);
+        while (character != BracedPages.NONE) {
+            text.append((char) character);
+            character = pages.out(text.length());
         }
         return text.toString();
+    }
+
+    /** All that can be seen of an object but IN. */
+    static String seen(BracedPages pages) {
+        return told(pages) + ", OUT " + out(pages) + ", AT " + pages.at();
+    }
+
+    /** What IN is read as in both forms; this changes the page and AT. */
+    static String seenOfIn(BracedPages pages) {
+        String braced = pages.readBraced() + " at " + pages.at() + ": " + told(pages);
+        return braced + ", " + pages.readTagged() + " at " + pages.at() + ": " + told(pages);
     }
 
     /** Each paragraph as "alignment indent", and behind it each run as "(style size colour|letters)". */
     static String told(BracedPages pages) {
         StringBuilder text = new StringBuilder();
-        for (int p = 0; p < pages.paragraphs(); p++) {
+        int paragraphs = pages.paragraphs();
+        for (int p = 0; p < paragraphs; p++) {
             text.append(p == 0 ? "" : " / ").append(pages.paragraph(p, 0)).append(' ').append(pages.paragraph(p, 1));
             int letter = 0;
-            for (int r = 0; r < pages.paragraph(p, 2); r++) {
+            int runs = pages.paragraph(p, 2);
+            for (int r = 0; r < runs; r++) {
                 text.append(" (").append(pages.run(p, r, 0)).append(' ').append(pages.run(p, r, 1));
                 text.append(' ').append(pages.run(p, r, 2)).append('|');
-                for (int i = 0; i < pages.run(p, r, 3); i++) {
+                int end = letter + pages.run(p, r, 3);
+                while (letter < end) {
                     text.append((char) pages.letter(p, letter));
                     letter++;
                 }
@@ -102,5 +137,14 @@ final class Check {
 
     static String repeated(String text, int times) {
         return text.repeat(times);
+    }
+
+    /** All characters that IN may have. */
+    static String characters() {
+        StringBuilder text = new StringBuilder("\n");
+        for (char c = 32; c <= 126; c++) {
+            text.append(c);
+        }
+        return text.toString();
     }
 }

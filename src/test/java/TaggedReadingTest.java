@@ -1,6 +1,7 @@
 /** Promises 6 and 7: the tagged form as it is read, with its faults and where they are met. */
 public final class TaggedReadingTest {
     private static final Check CHECK = new Check("TaggedReadingTest");
+    private static final Form TAGGED = new Form(CHECK, BracedPages::readTagged);
 
     public static void main(String[] arguments) {
         paragraphs();
@@ -19,20 +20,15 @@ public final class TaggedReadingTest {
 
     /** Just what is written is read: so whatever is read must be written again as it was. */
     private static void page(String text, String due) {
+        TAGGED.page(text, due);
         BracedPages pages = Check.fed(text);
-        int answer = pages.readTagged();
-        CHECK.same(text, Check.told(pages), due);
-        CHECK.same(text + " paragraphs", answer, pages.paragraphs());
-        CHECK.same(text + " at", pages.at(), BracedPages.NONE);
+        pages.readTagged();
         pages.writeTagged();
         CHECK.same(text + " written", Check.out(pages), text);
     }
 
     private static void fault(String text, int due, int at) {
-        BracedPages pages = Check.fed(text);
-        CHECK.same(text, pages.readTagged(), due);
-        CHECK.same(text + " at", pages.at(), at);
-        CHECK.same(text + " leaves no page", pages.paragraphs(), 0);
+        TAGGED.fault(text, due, at);
     }
 
     private static void paragraphs() {

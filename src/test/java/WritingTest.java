@@ -76,7 +76,7 @@ public final class WritingTest {
             "{{\\colortbl;red;green;blue;cyan;magenta;yellow;white;}"
             + "\\pard{\\cf7 7}{\\cf6 6}{\\cf5 5}{\\cf4 4}{\\cf3 3}{\\cf2 2}{\\cf1 1}{0}\\par}",
             "<p><c 7>7</c><c 6>6</c><c 5>5</c><c 4>4</c><c 3>3</c><c 2>2</c><c 1>1</c>0</p>");
-        pages.wipe();
+        pages = new BracedPages();
         pages.begin(0, 0);
         pages.add('a', 0, 12, 6);
         pages.begin(0, 0);
@@ -92,19 +92,26 @@ public final class WritingTest {
         written("no colours any more", pages, "{\\pard{c}\\par}", "<p>c</p>");
     }
 
+    /** In eight parts, because an object answers no more than 512 calls. */
     private static void letters() {
+        for (int first = 32; first <= 255; first += 28) {
+            letters(first, first + 27);
+        }
+    }
+
+    private static void letters(int first, int last) {
         BracedPages pages = new BracedPages();
         pages.begin(0, 0);
         StringBuilder braced = new StringBuilder("{\\pard{");
         StringBuilder tagged = new StringBuilder("<p>");
-        for (int code = 32; code <= 255; code++) {
+        for (int code = first; code <= last; code++) {
             pages.add(code, 0, 12, 0);
             String self = Character.toString((char) code);
             braced.append(code > 126 ? "\\'" + Integer.toHexString(code) : "{}\\".contains(self) ? "\\" + self : self);
             tagged.append(code > 126 ? "&" + code + ";"
                 : self.equals("<") ? "&lt;" : self.equals(">") ? "&gt;" : self.equals("&") ? "&amp;" : self);
         }
-        written("all letters", pages, braced + "}\\par}", tagged + "</p>");
+        written("letters from " + first, pages, braced + "}\\par}", tagged + "</p>");
     }
 
     private static void longest() {
