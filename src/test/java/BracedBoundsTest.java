@@ -49,6 +49,7 @@ public final class BracedBoundsTest {
         cutOffThings();
         behindAll();
         placesOfFaults();
+        pagesThatWereRead();
         CHECK.end();
     }
 
@@ -92,6 +93,13 @@ public final class BracedBoundsTest {
         pages.clear();
         Check.feedAll(pages, times("{", 12) + times("}", 12));
         CHECK.same("its groups", pages.readBraced(), 0);
+        pages.clear();
+        Check.feedAll(pages, "{{\\colortbl;blue;re");
+        CHECK.same("a reading that ends amid a name", pages.readBraced(), OPEN);
+        pages.clear();
+        Check.feedAll(pages, "{a{\\colortbl}b{\\colortbl;red;}\\cf1 c}");
+        CHECK.same("the next one", pages.readBraced(), 1);
+        CHECK.same("its page", Check.told(pages), "0 0 (0 12 0|ab) (0 12 1|c)");
     }
 
     private static void deepGroups() {
@@ -252,6 +260,8 @@ public final class BracedBoundsTest {
         CHECK.sentence("plain: the look is PLAIN.");
         page("{{\\colortbl;red;}\\b\\i\\ul\\fs9\\cf1\\qc\\li2\\uc0 a\\plain b\\u65 c\\par}", "1 2 (7 9 1|a) (0 12 0|bAc)");
         page("{\\b a\\plain0 b\\i\\plain99999 c}", "0 0 (1 12 0|a) (0 12 0|bc)");
+        CHECK.sentence("PLAIN is neither bold, italic nor underlined, of size 12 and colour 0.");
+        page("{{\\colortbl;red;}\\plain a\\b0\\i0\\ul0\\fs12\\cf0 b\\fs11 c\\fs13 d}", "0 0 (0 12 0|ab) (0 11 0|c) (0 13 0|d)");
     }
 
     private static void layoutWords() {
@@ -646,5 +656,16 @@ public final class BracedBoundsTest {
         fault(before + "}\n\\b", BEHIND, 9);
         fault(before + "\\fs0\\1{{{{{{{{{{{{{", RANGE, 7);
         fault(before + "\\1\\fs0", WORD, 7);
+    }
+
+    private static void pagesThatWereRead() {
+        CHECK.sentence("(IN stays): the page becomes what was read, and the answer is how many paragraphs it has; or a fault.");
+        String full = "{" + times("\\qr\\li9 a\\par", 16) + "}";
+        String[] empty = {"{}", "{\\qc\\li3\\b }", "{{}}\n"};
+        String[] wrong = {"{" + times("z\\par ", 17) + "}", "{z\\par z\\par", ""};
+        for (int i = 0; i < empty.length; i++) {
+            BRACED.replacesFull(full, empty[i], wrong[i]);
+            BRACED.replacesEmpty(full, empty[i], wrong[i]);
+        }
     }
 }

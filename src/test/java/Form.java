@@ -34,6 +34,40 @@ final class Form {
         check.same(text + " leaves IN: at", pages.at(), at);
     }
 
+    /** A full page, and what becomes of it by a fault and by an empty page. */
+    void replacesFull(String full, String empty, String wrong) {
+        BracedPages pages = Check.fed(full);
+        check.same("a full page", reading.applyAsInt(pages), 16);
+        String before = Check.told(pages);
+        replace(pages, wrong);
+        check.same(wrong + " is a fault", reading.applyAsInt(pages) < BracedPages.NONE ? 1 : 0, 1);
+        check.same("a fault leaves a full page", Check.told(pages), before);
+        replace(pages, empty);
+        check.same("an empty page", reading.applyAsInt(pages), 0);
+        check.same("nothing of the full one is left", Check.told(pages), "");
+        check.same("a paragraph behind it", pages.begin(0, 0), 1);
+        check.same("has no letters", Check.told(pages), "0 0");
+    }
+
+    /** An empty page, and what becomes of it by a fault and by a full page. */
+    void replacesEmpty(String full, String empty, String wrong) {
+        BracedPages pages = Check.fed(empty);
+        check.same("an empty page", reading.applyAsInt(pages), 0);
+        replace(pages, wrong);
+        check.same(wrong + " is a fault", reading.applyAsInt(pages) < BracedPages.NONE ? 1 : 0, 1);
+        check.same("a fault leaves an empty page", Check.told(pages), "");
+        replace(pages, full);
+        check.same("a full page", reading.applyAsInt(pages), 16);
+        BracedPages other = Check.fed(full);
+        reading.applyAsInt(other);
+        check.same("as on a new object", Check.told(pages), Check.told(other));
+    }
+
+    private static void replace(BracedPages pages, String text) {
+        pages.clear();
+        Check.feedAll(pages, text);
+    }
+
     private static BracedPages used(String text) {
         BracedPages pages = Check.fed(text);
         pages.begin(1, 2);

@@ -31,7 +31,9 @@ public final class TaggedBoundsTest {
         cutOffTags();
         otherTags();
         theEnd();
+        firstFault();
         nextReading();
+        pagesThatWereRead();
         CHECK.end();
     }
 
@@ -436,6 +438,19 @@ public final class TaggedBoundsTest {
         fault("<p>" + Check.repeated("a", 397), TAG, 400);
     }
 
+    private static void firstFault() {
+        CHECK.sentence("READING goes through IN from the front, and a FAULT is met where the part begins that is wrong");
+        fault("<p><s 12><q>", RANGE, 3);
+        fault("<p><q><s 12>", TAG, 3);
+        fault("<p><b></b><s 12>", SAME, 6);
+        fault("<p><b>x</b><b>y<s 12>", SAME, 11);
+        fault("<p><b>x</b><b><c 8>y", RANGE, 14);
+        fault("<p>a\n&1;", TAG, 4);
+        fault("<p>a&1;\n", RANGE, 4);
+        fault(Check.repeated("<p></p>", 16) + "<p><q>", LONG, 112);
+        fault(Check.repeated("<p></p>", 15) + "<p><q></p><p>", TAG, 108);
+    }
+
     private static void nextReading() {
         CHECK.sentence("A reading that answers a fault changes nothing but AT.");
         String[] wrong = {"<p C3>", "<p>a<b><i><s 5><c 3>", "<p><b><c 3>a", "<p><b><i>a</i>", "<p><s 12>", "<p><b>x</b><b>x", "<p><b></b>",
@@ -447,6 +462,16 @@ public final class TaggedBoundsTest {
             Check.feedAll(pages, "<p>a<i>b</i></p>");
             CHECK.same("the next reading", pages.readTagged(), 1);
             CHECK.same("its page", Check.told(pages), "0 0 (0 12 0|a) (2 12 0|b)");
+        }
+    }
+
+    private static void pagesThatWereRead() {
+        CHECK.sentence("Reads IN as TAGGED, likewise.");
+        String full = Check.repeated("<p R9><b>a</b></p>", 16);
+        String[] wrong = {Check.repeated("<p>z</p>", 17), "<p>z</p><p>z"};
+        for (String text : wrong) {
+            TAGGED.replacesFull(full, "", text);
+            TAGGED.replacesEmpty(full, "", text);
         }
     }
 }

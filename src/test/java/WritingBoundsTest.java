@@ -68,10 +68,14 @@ public final class WritingBoundsTest {
         braced("colour 0 alone", pages, "{\\pard{a}\\par}");
         pages.add('b', 0, 12, 1);
         braced("another one", pages, "{{\\colortbl;red;}\\pard{a}{\\cf1 b}\\par}");
-        pages.wipe();
-        pages.begin(0, 0);
-        pages.add('a', 0, 12, 0);
-        braced("none any more", pages, "{\\pard{a}\\par}");
+        for (int colour = 1; colour <= 7; colour++) {
+            pages = withLetter('a', 0, 12, colour);
+            pages.writeBraced();
+            pages.wipe();
+            pages.begin(0, 0);
+            pages.add('a', 0, 12, 0);
+            braced("no colour " + colour + " any more", pages, "{\\pard{a}\\par}");
+        }
     }
 
     private static void oneColour() {
