@@ -11,7 +11,7 @@ public final class CallBoundsTest {
         alignmentsAndIndents();
         noRuns();
         codesAndLooks();
-        onesRun();
+        runsOfOneLook();
         newObject();
         feedsUpToZero();
         feedsNothing();
@@ -150,7 +150,7 @@ public final class CallBoundsTest {
         }
     }
 
-    private static void onesRun() {
+    private static void runsOfOneLook() {
         CHECK.sentence("Letters side by side in a paragraph are in one run just when their looks are the same.");
         int[][] looks = {{0, 12, 0}, {1, 12, 0}, {2, 12, 0}, {4, 12, 0}, {0, 13, 0}, {0, 12, 1}, {7, 99, 7}};
         for (int[] one : looks) {
