@@ -15,6 +15,7 @@ public final class FaceTest {
     public static void main(String[] arguments) {
         constants();
         members();
+        exceptions();
         names();
         CHECK.end();
     }
@@ -51,6 +52,26 @@ public final class FaceTest {
         CHECK.same("constants", fields, 10);
         CHECK.same("constructors", BracedPages.class.getDeclaredConstructors().length, 1);
         CHECK.same("class", Modifier.toString(BracedPages.class.getModifiers()), "public final");
+    }
+
+    private static void exceptions() {
+        List<String> told = new ArrayList<>();
+        for (Method method : BracedPages.class.getDeclaredMethods()) {
+            List<String> thrown = new ArrayList<>();
+            for (Class<?> one : method.getExceptionTypes()) {
+                thrown.add(one.getName());
+            }
+            if (!thrown.isEmpty()) {
+                told.add(method.getName() + " " + String.join(" ", thrown));
+            }
+        }
+        Collections.sort(told);
+        String state = " java.lang.IllegalStateException", argument = " java.lang.IllegalArgumentException";
+        String unsupported = " java.lang.UnsupportedOperationException", missing = " java.util.NoSuchElementException";
+        CHECK.same("what is thrown", String.join("; ", told), "add" + state + argument + unsupported + "; begin" + argument
+            + unsupported + "; feed" + argument + unsupported + "; letter" + missing + "; paragraph" + missing + argument
+            + "; run" + missing + argument + "; take" + unsupported);
+        CHECK.same("what the constructor throws", BracedPages.class.getDeclaredConstructors()[0].getExceptionTypes().length, 0);
     }
 
     private static void names() {
